@@ -411,7 +411,7 @@ public final class GuidePlans {
             if (!hasPerson(p) || !hasTask(t)) {
                 return false;
             }
-            return (skillsOf[p] >> skill[t] & 1) != 0 && !isOffIn(p, t);
+            return ((skillsOf[p] >> skill[t]) & 1) != 0 && !isOffIn(p, t);
         }
 
         private boolean isOffIn(int p, int t) {

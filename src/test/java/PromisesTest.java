@@ -283,6 +283,12 @@ public final class PromisesTest {
         GuidePlans y = withPersons(1);
         y.task(0, 0, 96, true);
         is("run()", 1, y.run());
+        GuidePlans z = withPersons(1);
+        z.task(0, 0, 10, false);
+        z.task(0, 20, 30, true);
+        z.limit(10);
+        is("run(), the hours are for the ALWAYS", 101, z.run());
+        plan(z, NONE, 0);
     }
 
     private static void promise7Freeze() {
@@ -407,6 +413,14 @@ public final class PromisesTest {
         both.off(1, 20, 21);
         is("run()", NONE, both.run());
         is("told(), the first by number", 5, both.told());
+        GuidePlans frozen = withPersons(1);
+        frozen.task(0, 10, 20, true);
+        frozen.run();
+        frozen.task(0, 5, 6, true);
+        frozen.task(1, 50, 60, true);
+        frozen.freeze(96);
+        is("run()", NONE, frozen.run());
+        is("told(), run() keeps nothing", 50, frozen.told());
         GuidePlans none = withPersons(1);
         none.task(1, 7, 9, true);
         is("run()", NONE, none.run());
@@ -536,6 +550,14 @@ public final class PromisesTest {
         plan(x, 0, 1, 2, 1, 2);
         is("absent(2, 40), 0 is off and 1 remains", 1, x.absent(2, 40));
         plan(x, 0, 1, 2, 1, 1);
+        GuidePlans cheaper = withPersons(1, 1, 1);
+        for (int t = 0; t < 4; t++) {
+            cheaper.task(0, 10 * t, 10 * t + 5, false);
+        }
+        is("run()", 6, cheaper.run());
+        plan(cheaper, 0, 0, 1, 2);
+        is("absent(1, 0), the cost goes ahead of the order", 1, cheaper.absent(1, 0));
+        plan(cheaper, 0, 0, 2, 2);
         GuidePlans order = withPersons(1, 1, 1);
         order.task(0, 0, 10, false);
         order.run();
