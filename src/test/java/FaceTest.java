@@ -27,11 +27,15 @@ public final class FaceTest {
         "int fair()",
         "int count(int) NoSuchElementException"));
 
+    private static final Set<Class<?>> CONSTANTS = Set.of(int.class, long.class, boolean.class, char.class,
+        String.class, int[].class, long[].class, char[].class, byte[].class);
+
     private static int wrong = 0;
 
     public static void main(String[] args) {
         Class<?> face = GuidePlans.class;
-        check(Modifier.isPublic(face.getModifiers()) && Modifier.isFinal(face.getModifiers()), "the class is public and final");
+        check(Modifier.isPublic(face.getModifiers()), "the class is public");
+        check(Modifier.isFinal(face.getModifiers()), "the class is final");
         checkMethods(face);
         checkConstructors(face);
         checkFields(face);
@@ -60,7 +64,8 @@ public final class FaceTest {
         Set<String> names = new TreeSet<>();
         for (Method m : face.getDeclaredMethods()) {
             if (!Modifier.isPrivate(m.getModifiers())) {
-                check(Modifier.isPublic(m.getModifiers()) && !Modifier.isStatic(m.getModifiers()), m + " is public or private");
+                check(Modifier.isPublic(m.getModifiers()), m + " is public or private");
+                check(!Modifier.isStatic(m.getModifiers()), m + " is of an object");
                 found.add(signature(m));
                 names.add(m.getName());
             }
@@ -72,9 +77,14 @@ public final class FaceTest {
     }
 
     private static String signature(Method m) {
-        String parameters = Arrays.stream(m.getParameterTypes()).map(Class::getSimpleName).collect(Collectors.joining(","));
-        String thrown = Arrays.stream(m.getExceptionTypes()).map(c -> " " + c.getSimpleName()).collect(Collectors.joining());
-        return m.getReturnType().getSimpleName() + " " + m.getName() + "(" + parameters + ")" + thrown;
+        String parameters = names(m.getParameterTypes(), ",");
+        String thrown = names(m.getExceptionTypes(), " ");
+        String call = m.getReturnType().getSimpleName() + " " + m.getName() + "(" + parameters + ")";
+        return thrown.isEmpty() ? call : call + " " + thrown;
+    }
+
+    private static String names(Class<?>[] types, String between) {
+        return Arrays.stream(types).map(Class::getSimpleName).collect(Collectors.joining(between));
     }
 
     private static void checkConstructors(Class<?> face) {
@@ -96,12 +106,21 @@ public final class FaceTest {
     private static void checkStaticFields(Class<?> one) {
         int ofObjects = 0;
         for (Field f : one.getDeclaredFields()) {
+            if (f.isSynthetic()) {
+                continue;
+            }
             if (Modifier.isStatic(f.getModifiers())) {
-                check(Modifier.isFinal(f.getModifiers()) && f.getType() == int.class, f + " is a constant of int");
+                check(Modifier.isFinal(f.getModifiers()), f + " is final");
+                check(isOfConstants(f.getType()), f + " is of a type for constants");
             } else {
                 ofObjects++;
             }
         }
         check(ofObjects <= 20, one + " has some twenty fields at most");
+    }
+
+    private static boolean isOfConstants(Class<?> type) {
+        boolean ofEnum = type.isEnum() || type.isArray() && type.getComponentType().isEnum();
+        return ofEnum || CONSTANTS.contains(type);
     }
 }

@@ -4,6 +4,7 @@ import java.util.List;
 import java.util.NoSuchElementException;
 import java.util.Random;
 import java.util.function.IntSupplier;
+import java.util.function.IntUnaryOperator;
 
 /**
  * Random runs of calls against a second implementation that reads the document
@@ -11,8 +12,9 @@ import java.util.function.IntSupplier;
  * compares the rest two by two.
  */
 public final class OracleTest {
-    private static final int RUNS = 500;
-    private static final int CALLS = 60;
+    private static final int RUNS = 1000;
+    /** The document promises nothing about an object behind this many calls. */
+    private static final int MOST_CALLS = 512;
     private static final int NONE = -1;
 
     /** What is answered by the document, made plainly and slowly. */
@@ -358,6 +360,7 @@ public final class OracleTest {
     private final Random random;
     private final int lengthOfDay;
     private final List<String> told = new ArrayList<>();
+    private int calls = 0;
     private boolean wrong = false;
 
     private OracleTest(long seed) {
@@ -410,13 +413,17 @@ public final class OracleTest {
         for (int n = 0; n < first && !wrong; n++) {
             build();
         }
-        for (int n = 0; n < CALLS && !wrong; n++) {
+        while (calls < MOST_CALLS && !wrong) {
             step();
             observe();
         }
     }
 
     private void same(String call, IntSupplier ofReal, IntSupplier ofOracle) {
+        if (calls >= MOST_CALLS) {
+            return;
+        }
+        calls++;
         String got = outcome(ofReal);
         String due = outcome(ofOracle);
         told.add(call + " -> " + got);
@@ -503,18 +510,25 @@ public final class OracleTest {
 
     private void observe() {
         int size = told.size();
-        for (int n = -1; n <= 6 && !wrong; n++) {
-            int k = n;
-            same("of(" + k + ")", () -> real.of(k), () -> oracle.of(k));
-            same("work(" + k + ")", () -> real.work(k), () -> oracle.work(k));
-            same("changed(" + k + ")", () -> real.changed(k), () -> oracle.changed(k));
-            same("count(" + k + ")", () -> real.count(k), () -> oracle.count(k));
-        }
+        boolean beyond = rarely();
+        look("of", beyond, oracle.tasks.size(), real::of, oracle::of);
+        look("work", beyond, oracle.persons.size(), real::work, oracle::work);
+        look("changed", beyond, oracle.changed.size(), real::changed, oracle::changed);
+        look("count", beyond, 4, real::count, oracle::count);
         same("cost()", real::cost, oracle::cost);
         same("told()", real::told, oracle::told);
         same("fair()", real::fair, oracle::fair);
         if (!wrong) {
             told.subList(size, told.size()).clear();
+        }
+    }
+
+    /** Asks for all numbers there are, and at times for one on each side of them. */
+    private void look(String name, boolean beyond, int size, IntUnaryOperator ofReal, IntUnaryOperator ofOracle) {
+        int more = beyond ? 1 : 0;
+        for (int n = -more; n < size + more && !wrong; n++) {
+            int k = n;
+            same(name + "(" + k + ")", () -> ofReal.applyAsInt(k), () -> ofOracle.applyAsInt(k));
         }
     }
 }
