@@ -269,6 +269,9 @@ public final class BoundaryTest {
             "absent(0, 90) = NONE", "plan 0 0", "told() = NONE"));
         Rows.run("both are kept, the limit", Rows.rows(two, "freeze(26)", "limit(20)", "absent(0, 90) = 0", "limit(19)",
             "absent(0, 90) = NONE", "plan 0 0", "told() = NONE"));
+        Rows.run("both are kept, another is absent", "person(2)", "person(1)", "task(0, 10, 20, once)",
+            "task(0, 25, 35, once)", "run() = 4", "freeze(26)", "rest(5)", "absent(0, 0) = 0", "rest(6)",
+            "absent(0, 0) = NONE", "rest(0)", "limit(20)", "absent(0, 0) = 0", "limit(19)", "absent(0, 0) = NONE");
         Rows.run("the second is free, the rest", Rows.rows(two, "freeze(25)", "rest(6)", "absent(0, 90) = 1",
             "plan 0 NONE"));
         Rows.run("the second is free, the limit", Rows.rows(two, "freeze(25)", "limit(19)", "absent(0, 90) = 1",
@@ -303,6 +306,9 @@ public final class BoundaryTest {
             "absent(1, 0) = 1", "plan 0 0 2 2", "cost() = 8");
         Rows.run("then the lower person", "person(1)", "person(1)", "person(1)", "task(0, 0, 5, once)", "run() = 1",
             "absent(0, 0) = 1", "plan 1");
+        Rows.run("so too behind a run() without a plan", "person(1)", "person(1)", "person(1)", "task(0, 0, 5, always)",
+            "task(0, 10, 15, once)", "task(0, 20, 25, once)", "task(0, 30, 35, once)", "run() = 6", "limit(0)",
+            "run() = NONE", "limit(96)", "absent(1, 0) = 1", "plan 0 0 2 2", "cost() = 8");
         Rows.run("then none for the later task", "person(1)", "task(0, 10, 20, once)", "task(0, 30, 40, once)",
             "run() = 4", "rest(11)", "absent(0, 90) = 1", "plan 0 NONE");
         Rows.run("two changes where one does not do", "person(1)", "person(3)", "task(0, 0, 10, always)",
@@ -438,6 +444,7 @@ public final class BoundaryTest {
         Rows.run("the former one", "person(1)", "person(1)", "task(0, 10, 20, always)", "task(0, 40, 50, once)",
             "run() = 2", "swap(0, 1) = 0", "off(0, 10, 11)", "off(1, 19, 20)", "run() = NONE", "plan 1 0", "cost() = 2",
             "work(1) = 10", "fair() = 0");
+        Rows.run("former changes", Rows.rows(USED, "limit(0)", "run() = NONE", "count(3) = 1", "changed(0) = 1"));
     }
 
     private static void told() {
@@ -492,6 +499,8 @@ public final class BoundaryTest {
             "absent(0, 90) = NONE", "told() = 40");
         Rows.run("and there is no ALWAYS: none such", "person(1)", "task(0, 10, 20, once)", "task(0, 20, 30, once)",
             "run() = 4", "freeze(21)", "rest(1)", "absent(0, 90) = NONE", "told() = NONE");
+        Rows.run("and none of six tasks is one", Rows.rows("person(1)", SIX_IN_A_ROW, "run() = 36", "freeze(17)",
+            "rest(1)", "absent(0, 90) = NONE", "told() = NONE"));
         Rows.run("the latest of both", "person(1)", "task(0, 10, 20, always)", "run() = 1", "absent(0, 0) = NONE",
             "told() = 10", "task(1, 40, 50, always)", "run() = NONE", "told() = 40", "absent(0, 0) = NONE",
             "told() = 10");
